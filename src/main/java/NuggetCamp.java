@@ -28,7 +28,6 @@ public final class NuggetCamp {
     private final Creek creek = new Creek();
     private final Store store = new Store();
     private final Rumours rumours = new Rumours();
-    private final Planner planner = new Planner();
     private final ArrayList<Miner> miners = new ArrayList<Miner>();
     private final ArrayList<Claim> claims = new ArrayList<Claim>();
     private final ArrayList<Right> rights = new ArrayList<Right>();
@@ -355,18 +354,17 @@ public final class NuggetCamp {
         Claim planned = claimAt(claim);
         Gear gear = gearAt(method);
         checkState(planned.many <= PLAN_CELLS);
-        planner.findBest(creek, planned.top, planned.many, gear);
-        return planner.bestRecovered;
+        return creek.yieldDownwards(planned.top, planned.many, gear);
     }
 
     public int planCell(int claim, int method, int place)
             throws IndexOutOfBoundsException, IllegalArgumentException, IllegalStateException {
         Claim planned = claimAt(claim);
         checkIndex(place >= 0);
-        Gear gear = gearAt(method);
+        checkRange(method, PAN, MONITOR);
         checkState(planned.many <= PLAN_CELLS);
-        planner.findBest(creek, planned.top, planned.many, gear);
-        return planner.bestCell(place);
+        // The best plan is downwards, as yieldDownwards tells.
+        return place < planned.many ? planned.top + place : NONE;
     }
 
     // ---- what is looked at ahead of a call
@@ -595,6 +593,23 @@ public final class NuggetCamp {
             return recovered;
         }
 
+        /**
+         * What the best plan recovers. It is always the one that goes downwards: with more grains
+         * in it a cell never yields less nor sends less down, and going downwards each cell is
+         * worked with the most that it can have. Of equal plans it is the first one, too.
+         */
+        int yieldDownwards(int top, int many, Gear gear) {
+            int sum = 0;
+            int fromAbove = 0;
+            for (int cell = top; cell < top + many; cell++) {
+                int taken = Math.min(grainsAt(cell) + fromAbove, gear.mostTaken);
+                int recovered = gear.recoveredOf(taken, clayAt(cell));
+                sum += recovered;
+                fromAbove = taken - recovered;
+            }
+            return sum;
+        }
+
         int goldInGround() {
             int sum = 0;
             for (int i = 0; i < grains.length; i++) {
@@ -794,86 +809,6 @@ public final class NuggetCamp {
             for (int i = 0; i < beliefs.length; i++) {
                 beliefs[i] = Math.max(0, beliefs[i] - beliefs[i] / 10 - 1);
             }
-        }
-    }
-
-    /** Tries all orders in which some cells can be dug; its rows are used again by each search. */
-    private static final class Planner {
-        private static final int ORDERS = 120;
-
-        private final Creek trial = new Creek();
-        private final int[] order = new int[PLAN_CELLS];
-        private final int[] best = new int[PLAN_CELLS];
-        private int length = 0;
-        private int bestRecovered = 0;
-
-        /** Orders come by rising cells, so the first of the best ones is kept by looking for more. */
-        void findBest(Creek creek, int top, int many, Gear gear) {
-            startOrders(top, many);
-            bestRecovered = NONE;
-            boolean more = true;
-            for (int i = 0; i < ORDERS && more; i++) {
-                int recovered = tryOrder(creek, gear);
-                if (recovered > bestRecovered) {
-                    bestRecovered = recovered;
-                    System.arraycopy(order, 0, best, 0, PLAN_CELLS);
-                }
-                more = nextOrder();
-            }
-        }
-
-        int bestCell(int place) {
-            return place >= 0 && place < length && place < PLAN_CELLS ? best[place] : NONE;
-        }
-
-        private void startOrders(int top, int many) {
-            length = Math.max(0, Math.min(many, PLAN_CELLS));
-            for (int i = 0; i < length && i < PLAN_CELLS; i++) {
-                order[i] = top + i;
-            }
-        }
-
-        private int tryOrder(Creek creek, Gear gear) {
-            for (int i = 0; i < length && i < PLAN_CELLS; i++) {
-                trial.lay(order[i], creek.grainsAt(order[i]), creek.clayAt(order[i]));
-            }
-            int sum = 0;
-            for (int i = 0; i < length && i < PLAN_CELLS; i++) {
-                sum += trial.dig(order[i], gear);
-            }
-            return sum;
-        }
-
-        /** Makes the next order, as orders are compared by their cells; false behind the last one. */
-        private boolean nextOrder() {
-            int fall = length - 2;
-            while (fall >= 0 && fall + 1 < PLAN_CELLS && order[fall] > order[fall + 1]) {
-                fall--;
-            }
-            if (fall < 0) {
-                return false;
-            }
-            int next = length - 1;
-            while (next > fall && next < PLAN_CELLS && order[next] < order[fall]) {
-                next--;
-            }
-            swap(fall, next);
-            for (int low = fall + 1, high = length - 1; low < high; low++, high--) {
-                swap(low, high);
-            }
-            return true;
-        }
-
-        private void swap(int one, int other) {
-            if (isPlace(one) && isPlace(other)) {
-                int kept = order[one];
-                order[one] = order[other];
-                order[other] = kept;
-            }
-        }
-
-        private boolean isPlace(int place) {
-            return place >= 0 && place < PLAN_CELLS;
         }
     }
 }

@@ -57,6 +57,21 @@ final class BackingTest {
         Check.due("17: again, to 100", camp.ofMiner(0, 7), 100);
     }
 
+    private static void largeShares() {
+        NuggetCamp camp = new NuggetCamp();
+        camp.ground(0, 2000, 0);
+        camp.miner(100, 0);
+        camp.miner(100, 0);
+        camp.miner(100, 0);
+        camp.peg(0, 0, 1);
+        camp.right(0, 40);
+        camp.back(1, 0, 30, 0);
+        camp.back(2, 0, 1, 0);
+        camp.work(0, 0, NuggetCamp.MONITOR);
+        checkGold("9: shares of a thousand", camp, 690, 300, 10);
+        Check.due("18: one percent", camp.end(2, 0), 1);
+    }
+
     private static void backRefused() {
         Check.Story backed = c -> {
             FOUR.tell(c);
@@ -106,6 +121,7 @@ final class BackingTest {
 
     public static void main(String[] args) {
         shares();
+        largeShares();
         backRefused();
         endRefused();
         Check.end();

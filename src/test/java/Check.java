@@ -63,12 +63,15 @@ final class Check {
         }
     }
 
+    /** The exception's name; one that the machine or its library throws by itself is told as such. */
     static String thrownBy(NuggetCamp camp, Question call) {
         try {
             call.ask(camp);
             return "nothing";
         } catch (RuntimeException thrown) {
-            return thrown.getClass().getSimpleName();
+            String name = thrown.getClass().getSimpleName();
+            boolean own = thrown.getStackTrace()[0].getClassName().startsWith("NuggetCamp");
+            return own ? name : name + " of the machine";
         }
     }
 

@@ -46,6 +46,15 @@ final class DayTest {
             eater.pass(1);
             Check.due("5: health is 1 more with food, day " + i, eater.ofMiner(0, 4), health[i]);
         }
+        NuggetCamp odd = new NuggetCamp();
+        odd.miner(0, 100);
+        odd.pass(2);
+        odd.buy(0, 1);
+        int[] oddHealth = {7, 5, 3, 1, 0, 0};
+        for (int i = 0; i < oddHealth.length; i++) {
+            odd.pass(1);
+            Check.due("5: never below 0, day " + i, odd.ofMiner(0, 4), oddHealth[i]);
+        }
         NuggetCamp late = new NuggetCamp();
         late.miner(4, 0);
         late.pass(8);

@@ -70,6 +70,11 @@ final class DustTest {
             RICH.tell(c);
             c.rate(1);
         }, 9, 0, 991, 0, 7, 9, 0);
+        Check.answers("13: the bank keeps what it has", c -> {
+            RICH.tell(c);
+            c.sell(0, 100);
+            c.sell(0, 20);
+        }, c -> c.gold(3), 120);
         NuggetCamp twice = Check.camp(withBrass(53));
         twice.sell(0, 1);
         twice.sell(0, 1053);

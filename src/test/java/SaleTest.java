@@ -158,6 +158,23 @@ final class SaleTest {
         }, c -> c.suit(0), 50);
     }
 
+    /** The first claim and the first cell, within the first days. */
+    private static void firstOnes() {
+        Check.Story sold = c -> {
+            c.ground(1, 50, 0);
+            c.miner(300, 0);
+            c.miner(300, 50);
+            c.work(0, 1, NuggetCamp.PAN);
+            c.peg(0, 0, 2);
+            c.trade(0, 1, 50);
+        };
+        Check.answers("20: a cell that nobody salted", sold, c -> c.suit(0), NuggetCamp.NONE);
+        Check.answers("20: the first cell, behind it", then(sold, c -> c.salt(0, 0, 1)),
+                c -> c.suit(0), 50);
+        Check.answers("20: the next cell, behind it", then(sold, c -> c.salt(0, 1, 1)),
+                c -> c.suit(0), 50);
+    }
+
     private static void coinsBack() {
         NuggetCamp camp = Check.camp(saltedDaysAhead(10, 0));
         Check.due("20: all coins of the sale", camp.suit(1), 300);
@@ -213,6 +230,7 @@ final class SaleTest {
         trade();
         saltings();
         saltedByOthers();
+        firstOnes();
         coinsBack();
         suitRefused();
         Check.end();

@@ -88,6 +88,10 @@ final class StoreTest {
         Check.due("28: rounded down", camp.camp(3), 17);
         Check.due("16: with just the coins", camp.buy(1, 2), 34);
         Check.due("28: rounded down again", camp.camp(3), 18);
+        Check.answers("16: food beside what is there", c -> {
+            c.miner(7, 100);
+            c.buy(0, 4);
+        }, c -> c.ofMiner(0, 2), 11);
         Check.badIndex("16: miner -1", rich, c -> c.buy(-1, 1));
         Check.badIndex("16: miner 3", rich, c -> c.buy(3, 1));
         Check.badIndex("16: miner ahead of food", rich, c -> c.buy(3, 0));

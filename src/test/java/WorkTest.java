@@ -48,8 +48,14 @@ final class WorkTest {
             Check.answers("9: into the sea by " + i, c -> {
                 CAMP.tell(c);
                 c.work(0, 39, method);
-            }, c -> c.gold(1), i == 3 ? 770 : lost[i]);
+            }, c -> c.gold(1), lost[i]);
         }
+        Check.answers("9: into the sea again", c -> {
+            CAMP.tell(c);
+            c.work(0, 39, PAN);
+            c.pass(1);
+            c.work(0, 39, PAN);
+        }, c -> c.gold(1), 16);
         Check.answers("9: at most what is there", CAMP, c -> c.work(0, 38, MONITOR), 154);
         Check.answers("9: by pan where nobody holds", CAMP, c -> c.work(0, 1, PAN), 12);
         Check.answers("9: no grains", CAMP, c -> c.work(0, 20, PAN), 0);
