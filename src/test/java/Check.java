@@ -11,7 +11,11 @@ final class Check {
         long ask(NuggetCamp camp);
     }
 
+    private static final int LAST_DAY = 5000;
+
+    private static int made = 0;
     private static int wrong = 0;
+    private static String about = "";
 
     private Check() {
     }
@@ -22,21 +26,57 @@ final class Check {
         return camp;
     }
 
-    static void due(String what, long got, long want) {
-        if (got != want) {
-            report(what, String.valueOf(got), String.valueOf(want));
+    static Story then(Story first, Story second) {
+        return c -> {
+            first.tell(c);
+            second.tell(c);
+        };
+    }
+
+    /** Lets days pass, as many at once as the document allows. */
+    static void toDay(NuggetCamp camp, int day) {
+        while (camp.day() < Math.min(day, LAST_DAY)) {
+            camp.pass(Math.min(200, day - camp.day()));
         }
     }
 
+    /** What the checks from here on are about. */
+    static void about(String words) {
+        about = words;
+    }
+
+    static int made() {
+        return made;
+    }
+
+    static void due(String what, long got, long want) {
+        due(what, String.valueOf(got), String.valueOf(want));
+    }
+
     static void due(String what, boolean got, boolean want) {
-        if (got != want) {
-            report(what, String.valueOf(got), String.valueOf(want));
+        due(what, String.valueOf(got), String.valueOf(want));
+    }
+
+    static void due(String what, String got, String want) {
+        made++;
+        if (!got.equals(want)) {
+            wrong++;
+            String begin = about.isEmpty() ? "" : about + ": ";
+            System.out.println(begin + what + ": answered " + got + ", due is " + want);
         }
     }
 
     /** After the story the question has the answer that is due. */
     static void answers(String what, Story story, Question question, long want) {
-        due(what, question.ask(camp(story)), want);
+        NuggetCamp camp = camp(story);
+        long[] got = new long[1];
+        String thrown = thrownBy(camp, c -> got[0] = question.ask(c));
+        due(what, thrown.equals("nothing") ? String.valueOf(got[0]) : thrown, String.valueOf(want));
+    }
+
+    /** After the story the call is not refused, whatever it answers. */
+    static void takes(String what, Story story, Question call) {
+        due(what, thrownBy(camp(story), call), "nothing");
     }
 
     static void badIndex(String what, Story story, Question call) {
@@ -53,14 +93,15 @@ final class Check {
 
     /** After the story the call throws just this exception, and changes nothing. */
     private static void refuses(String what, Story story, Question call, String want) {
-        NuggetCamp camp = camp(story);
-        String got = thrownBy(camp, call);
-        if (!got.equals(want)) {
-            report(what, got, want);
-        }
-        if (!stateOf(camp).equals(stateOf(camp(story)))) {
-            report(what, "another state", "the same state");
-        }
+        due(what, thrownBy(camp(story), call), want);
+        changesNothing(what, story, call);
+    }
+
+    /** All that can be found out behind the call is as it is without it. */
+    static void changesNothing(String what, Story story, Question call) {
+        String without = Probe.of(story);
+        String with = Probe.of(then(story, c -> thrownBy(c, call)));
+        due(what, with.equals(without) ? "the same state" : "another state", "the same state");
     }
 
     /** The exception's name; one that the machine or its library throws by itself is told as such. */
@@ -73,49 +114,6 @@ final class Check {
             boolean own = thrown.getStackTrace()[0].getClassName().startsWith("NuggetCamp");
             return own ? name : name + " of the machine";
         }
-    }
-
-    /** All that can be asked with at most some 460 questions. */
-    static String stateOf(NuggetCamp camp) {
-        StringBuilder state = new StringBuilder();
-        state.append(camp.day());
-        for (int cell = 0; cell < 40; cell++) {
-            state.append("\ncell ").append(cell).append(' ').append(camp.sample(cell));
-            state.append(' ').append(camp.holds(cell)).append(' ').append(camp.belief(cell));
-        }
-        for (int what = 0; what < 5; what++) {
-            state.append("\ngold ").append(camp.gold(what));
-        }
-        for (int what = 0; what < 6; what++) {
-            state.append("\ncamp ").append(camp.camp(what));
-        }
-        addRows(state, "miner", 8, camp::ofMiner);
-        addRows(state, "claim", 6, camp::ofClaim);
-        addRows(state, "right", 1, (right, what) -> camp.gets(right));
-        addRows(state, "plan", 1, (claim, what) ->
-                camp.ofClaim(claim, 2) > 5 ? 0 : camp.plan(claim, NuggetCamp.MONITOR));
-        return state.toString();
-    }
-
-    private interface Row {
-        int ask(int number, int what);
-    }
-
-    private static void addRows(StringBuilder state, String name, int columns, Row row) {
-        for (int number = 0; number < 30; number++) {
-            for (int what = 0; what < columns; what++) {
-                try {
-                    state.append('\n').append(name).append(' ').append(row.ask(number, what));
-                } catch (IndexOutOfBoundsException noMore) {
-                    return;
-                }
-            }
-        }
-    }
-
-    private static void report(String what, String got, String want) {
-        wrong++;
-        System.out.println(what + ": answered " + got + ", due is " + want);
     }
 
     /** Ends the test, with the exit code 1 if an answer was wrong. */

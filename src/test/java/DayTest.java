@@ -2,27 +2,21 @@
 final class DayTest {
     private static final Check.Story NEW = camp -> { };
 
-    private static void toDay(NuggetCamp camp, int day) {
-        while (camp.day() < day) {
-            camp.pass(Math.min(200, day - camp.day()));
-        }
-    }
-
     private static void days() {
         NuggetCamp camp = new NuggetCamp();
         Check.due("5: one day", camp.pass(1), 1);
         Check.due("22: day", camp.day(), 1);
         Check.due("5: most days", camp.pass(200), 201);
-        toDay(camp, 4999);
+        Check.toDay(camp, 4999);
         Check.due("5: the last day", camp.pass(1), 5000);
         Check.badArgument("5: 0 days", NEW, c -> c.pass(0));
         Check.badArgument("5: -1 days", NEW, c -> c.pass(-1));
         Check.badArgument("5: 201 days", NEW, c -> c.pass(201));
         Check.badArgument("5: largest", NEW, c -> c.pass(Integer.MAX_VALUE));
-        Check.badState("5: above 5000", c -> toDay(c, 4990), c -> c.pass(11));
-        Check.badState("5: behind the last day", c -> toDay(c, 5000), c -> c.pass(1));
-        Check.badArgument("5: argument ahead of state", c -> toDay(c, 5000), c -> c.pass(201));
-        Check.answers("5: just 5000", c -> toDay(c, 4990), c -> c.pass(10), 5000);
+        Check.badState("5: above 5000", c -> Check.toDay(c, 4990), c -> c.pass(11));
+        Check.badState("5: behind the last day", c -> Check.toDay(c, 5000), c -> c.pass(1));
+        Check.badArgument("5: argument ahead of state", c -> Check.toDay(c, 5000), c -> c.pass(201));
+        Check.answers("5: just 5000", c -> Check.toDay(c, 4990), c -> c.pass(10), 5000);
     }
 
     private static void health() {

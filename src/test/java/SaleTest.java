@@ -19,13 +19,6 @@ final class SaleTest {
         c.trade(1, 1, 300);
     };
 
-    private static Check.Story then(Check.Story first, Check.Story second) {
-        return c -> {
-            first.tell(c);
-            second.tell(c);
-        };
-    }
-
     private static void trade() {
         NuggetCamp camp = Check.camp(CAMP);
         camp.pass(2);
@@ -39,7 +32,7 @@ final class SaleTest {
         Check.due("19: the next seller", camp.trade(1, 2, 400), 1);
         Check.due("19: all coins", camp.ofMiner(2, 3), 0);
         Check.due("19: for nothing", camp.trade(1, 0, 0), 2);
-        Check.answers("19: the buyer may work it", then(SOLD, c -> c.pass(1)),
+        Check.answers("19: the buyer may work it", Check.then(SOLD, c -> c.pass(1)),
                 c -> c.work(1, 10, NuggetCamp.PAN) + c.ofClaim(1, 4), 41);
         Check.badState("19: the seller may not", SOLD, c -> c.work(0, 10, NuggetCamp.PAN));
         Check.answers("19: it lives by its buyer", c -> {
@@ -53,8 +46,8 @@ final class SaleTest {
     }
 
     private static void tradeRefused() {
-        Check.Story lapsed = then(CAMP, c -> c.pass(101));
-        Check.Story dead = then(CAMP, c -> {
+        Check.Story lapsed = Check.then(CAMP, c -> c.pass(101));
+        Check.Story dead = Check.then(CAMP, c -> {
             c.miner(0, 900);
             c.pass(5);
         });
@@ -71,12 +64,12 @@ final class SaleTest {
         Check.badState("19: lapsed", lapsed, c -> c.trade(1, 1, 0));
         Check.badState("19: a dead buyer", dead, c -> c.trade(1, 3, 0));
         Check.badState("19: less coins", CAMP, c -> c.trade(1, 1, 501));
-        Check.badState("20: a refused sale is no sale", then(CAMP, c ->
+        Check.badState("20: a refused sale is no sale", Check.then(CAMP, c ->
                 Check.thrownBy(c, x -> x.trade(1, 1, 501))), c -> c.suit(1));
     }
 
     private static Check.Story saltedDaysAhead(int cell, int days) {
-        return then(CAMP, c -> {
+        return Check.then(CAMP, c -> {
             c.salt(0, cell, 5);
             if (days > 0) {
                 c.pass(days);
@@ -94,19 +87,19 @@ final class SaleTest {
         Check.answers("20: the cell below", saltedDaysAhead(13, 0), c -> c.suit(1), none);
         Check.answers("20: 30 days ahead", saltedDaysAhead(11, 30), c -> c.suit(1), 300);
         Check.answers("20: 31 days ahead", saltedDaysAhead(11, 31), c -> c.suit(1), none);
-        Check.answers("20: behind it on the day", then(SOLD, c -> c.salt(0, 11, 5)),
+        Check.answers("20: behind it on the day", Check.then(SOLD, c -> c.salt(0, 11, 5)),
                 c -> c.suit(1), 300);
-        Check.answers("20: on the day behind it", then(SOLD, c -> {
+        Check.answers("20: on the day behind it", Check.then(SOLD, c -> {
             c.pass(1);
             c.salt(0, 11, 5);
         }), c -> c.suit(1), none);
-        Check.answers("20: behind it on the day, beside it", then(SOLD, c -> c.salt(0, 13, 5)),
+        Check.answers("20: behind it on the day, beside it", Check.then(SOLD, c -> c.salt(0, 13, 5)),
                 c -> c.suit(1), none);
-        Check.answers("20: ahead of it, and long behind it", then(saltedDaysAhead(11, 20), c -> {
+        Check.answers("20: ahead of it, and long behind it", Check.then(saltedDaysAhead(11, 20), c -> {
             c.pass(10);
             c.salt(0, 11, 5);
         }), c -> c.suit(1), 300);
-        Check.answers("20: twice ahead of it", then(CAMP, c -> {
+        Check.answers("20: twice ahead of it", Check.then(CAMP, c -> {
             c.salt(0, 11, 5);
             c.pass(31);
             c.salt(0, 11, 5);
@@ -125,22 +118,22 @@ final class SaleTest {
             c.work(2, 1, NuggetCamp.PAN);
             c.peg(0, 10, 3);
         };
-        Check.answers("20: salted by the buyer", then(giver, c -> {
+        Check.answers("20: salted by the buyer", Check.then(giver, c -> {
             c.salt(1, 10, 5);
             c.trade(0, 1, 100);
             c.salt(1, 11, 5);
         }), c -> c.suit(0), NuggetCamp.NONE);
-        Check.answers("20: salted by a third one", then(giver, c -> {
+        Check.answers("20: salted by a third one", Check.then(giver, c -> {
             c.salt(2, 10, 5);
             c.trade(0, 1, 100);
             c.salt(2, 11, 5);
         }), c -> c.suit(0), NuggetCamp.NONE);
-        Check.answers("20: salted by the seller of the latest sale", then(giver, c -> {
+        Check.answers("20: salted by the seller of the latest sale", Check.then(giver, c -> {
             c.salt(1, 10, 5);
             c.trade(0, 1, 100);
             c.trade(0, 2, 70);
         }), c -> c.suit(0), 70);
-        Check.answers("20: salted by the seller of an earlier sale", then(giver, c -> {
+        Check.answers("20: salted by the seller of an earlier sale", Check.then(giver, c -> {
             c.salt(1, 10, 5);
             c.trade(0, 1, 100);
             c.trade(0, 2, 70);
@@ -169,9 +162,9 @@ final class SaleTest {
             c.trade(0, 1, 50);
         };
         Check.answers("20: a cell that nobody salted", sold, c -> c.suit(0), NuggetCamp.NONE);
-        Check.answers("20: the first cell, behind it", then(sold, c -> c.salt(0, 0, 1)),
+        Check.answers("20: the first cell, behind it", Check.then(sold, c -> c.salt(0, 0, 1)),
                 c -> c.suit(0), 50);
-        Check.answers("20: the next cell, behind it", then(sold, c -> c.salt(0, 1, 1)),
+        Check.answers("20: the next cell, behind it", Check.then(sold, c -> c.salt(0, 1, 1)),
                 c -> c.suit(0), 50);
     }
 
@@ -182,13 +175,13 @@ final class SaleTest {
         Check.due("20: the buyer's", camp.ofMiner(1, 3), 500);
         Check.due("20: the claim stays", camp.ofClaim(1, 0), 1);
         Check.due("20: held", camp.ofClaim(1, 3), 1);
-        Check.answers("20: as many as the seller has", then(saltedDaysAhead(10, 0), c -> {
+        Check.answers("20: as many as the seller has", Check.then(saltedDaysAhead(10, 0), c -> {
             c.back(0, 2, 1, 290);
         }), c -> c.suit(1) * 1000 + c.ofMiner(1, 3), 16216);
-        Check.answers("20: the seller has none", then(saltedDaysAhead(10, 0), c -> {
+        Check.answers("20: the seller has none", Check.then(saltedDaysAhead(10, 0), c -> {
             c.back(0, 2, 1, 306);
         }), c -> c.suit(1), 0);
-        Check.answers("20: sold for nothing", then(CAMP, c -> {
+        Check.answers("20: sold for nothing", Check.then(CAMP, c -> {
             c.salt(0, 10, 5);
             c.trade(1, 1, 0);
         }), c -> c.suit(1), 0);
@@ -209,20 +202,20 @@ final class SaleTest {
         Check.badIndex("20: claim -1", salted, c -> c.suit(-1));
         Check.badIndex("20: claim 2", salted, c -> c.suit(2));
         Check.badState("20: not sold", CAMP, c -> c.suit(1));
-        Check.answers("20: at most 30 days", then(salted, c -> c.pass(30)), c -> c.suit(1), 300);
-        Check.badState("20: 31 days", then(salted, c -> c.pass(31)), c -> c.suit(1));
-        Check.badState("20: twice", then(salted, c -> c.suit(1)), c -> c.suit(1));
-        Check.badState("20: twice without success", then(SOLD, c -> c.suit(1)), c -> c.suit(1));
-        Check.badState("20: brought, then salted", then(SOLD, c -> {
+        Check.answers("20: at most 30 days", Check.then(salted, c -> c.pass(30)), c -> c.suit(1), 300);
+        Check.badState("20: 31 days", Check.then(salted, c -> c.pass(31)), c -> c.suit(1));
+        Check.badState("20: twice", Check.then(salted, c -> c.suit(1)), c -> c.suit(1));
+        Check.badState("20: twice without success", Check.then(SOLD, c -> c.suit(1)), c -> c.suit(1));
+        Check.badState("20: brought, then salted", Check.then(SOLD, c -> {
             c.suit(1);
             c.salt(0, 10, 5);
         }), c -> c.suit(1));
-        Check.answers("20: a new sale, a new suit", then(SOLD, c -> {
+        Check.answers("20: a new sale, a new suit", Check.then(SOLD, c -> {
             c.suit(1);
             c.pass(60);
             c.trade(1, 2, 9);
         }), c -> c.suit(1), NuggetCamp.NONE);
-        Check.badState("20: a sale of another claim", then(salted, c -> c.suit(1)),
+        Check.badState("20: a sale of another claim", Check.then(salted, c -> c.suit(1)),
                 c -> c.suit(0));
     }
 
